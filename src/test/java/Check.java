@@ -10,30 +10,40 @@ final class Check {
 
     private final String title;
     private final List<String> faults = new ArrayList<>();
+    private String sentence = "";
     private int checks = 0;
 
     Check(String title) {
         this.title = title;
     }
 
+    /** Tells the sentence of the document that the next checks are about. */
+    void about(String sentence) {
+        this.sentence = "(" + sentence + ") ";
+    }
+
+    private void fault(String text) {
+        faults.add(sentence + text);
+    }
+
     void equal(String what, long got, long due) {
         checks++;
         if (got != due) {
-            faults.add(what + " answered " + got + ", due is " + due);
+            fault(what + " answered " + got + ", due is " + due);
         }
     }
 
     void equal(String what, float got, float due) {
         checks++;
         if (!(got == due)) {
-            faults.add(what + " answered " + got + ", due is " + due);
+            fault(what + " answered " + got + ", due is " + due);
         }
     }
 
     void equal(String what, Object got, Object due) {
         checks++;
         if (!due.equals(got)) {
-            faults.add(what + " is " + got + ", due is " + due);
+            fault(what + " is " + got + ", due is " + due);
         }
     }
 
@@ -49,7 +59,7 @@ final class Check {
         checks++;
         String got = outcome(call);
         if (!got.equals(due.getName())) {
-            faults.add(what + " came to " + got + ", due is " + due.getName());
+            fault(what + " came to " + got + ", due is " + due.getName());
         }
     }
 

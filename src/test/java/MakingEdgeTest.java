@@ -339,6 +339,7 @@ public final class MakingEdgeTest extends Edges {
         check.equal("a new object", new SentenceGym().changes(), NONE);
         check.equal("words and rules", allSentences().changes(), NONE);
         SentenceGym gym = say(allSentences(), 0);
+        check.equal("a word", gym.changes(), 0);
         gym.hush();
         check.equal("hushed", gym.changes(), NONE);
     }
@@ -450,6 +451,10 @@ public final class MakingEdgeTest extends Edges {
         check.equal("a new object", new SentenceGym().correction(0), NONE);
         check.equal("words and rules", allSentences().correction(0), NONE);
         check.equal("large", allSentences().correction(LARGE), NONE);
+        SentenceGym gym = say(allSentences(), 0);
+        check.equal("a word", gym.correction(0), 1);
+        gym.hush();
+        check.equal("hushed", gym.correction(0), NONE);
     }
 
     private void correctionLast() {

@@ -21,6 +21,8 @@ public final class ParsingEdgeTest extends Edges {
         test.hasThrowsForItsPlacesFirst();
         test.hasWantsJustTheseValues();
         test.hasFindsAnyOfSeveralReadings();
+        test.hasFindsEachThatOneRuleMakes();
+        test.hasFindsTheOneThatAgrees();
         test.hasGoesFromTheFirstToBehindTheLast();
         test.theLevelOfNoSentenceIsNone();
         test.levelsGoFrom0To8();
@@ -264,6 +266,53 @@ public final class ParsingEdgeTest extends Edges {
         }
     }
 
+    /** The words 0 and 1 are one part in two ways, with the values 12 and 31; 2 is a word beside it. */
+    private static SentenceGym partOfTwoValues(int first, int second) {
+        SentenceGym gym = new SentenceGym();
+        gym.addWord(1, 1, 2);
+        gym.addWord(2, 3, 1);
+        gym.addWord(3, first, second);
+        gym.addRule(4, 1, 2, 0);
+        gym.addRule(4, 1, 2, 11);
+        return gym;
+    }
+
+    private void onlyHas(SentenceGym gym, int one, int other) {
+        for (int values = 0; values <= 33; values++) {
+            if (isDigitPair(values)) {
+                check.equal("values " + values, gym.has(0, 3, 0, values) ? 1 : 0, values == one || values == other ? 1 : 0);
+            }
+        }
+    }
+
+    private void hasFindsEachThatOneRuleMakes() {
+        check.about("14 has: whether they have a reading with certain values, among several of one rule");
+        SentenceGym ahead = say(partOfTwoValues(0, 0), 0, 1, 2);
+        ahead.addRule(0, 4, 3, 0);
+        onlyHas(ahead, 12, 31);
+        SentenceGym behind = say(partOfTwoValues(0, 0), 2, 0, 1);
+        behind.addRule(0, 3, 4, 11);
+        onlyHas(behind, 12, 31);
+        bothWays("behind", behind, 2);
+    }
+
+    private void hasFindsTheOneThatAgrees() {
+        check.about("14 has: of parts with several values, those that agree");
+        int[] agreeing = {12, 31};
+        for (int due : agreeing) {
+            SentenceGym ahead = say(partOfTwoValues(due / 10, due % 10), 0, 1, 2);
+            ahead.addRule(0, 4, 3, 22);
+            onlyHas(ahead, due, due);
+            bothWays("ahead", ahead, 1);
+            check.equal("level", ahead.level(), 3);
+            SentenceGym behind = say(partOfTwoValues(due / 10, due % 10), 2, 0, 1);
+            behind.addRule(0, 3, 4, 22);
+            onlyHas(behind, due, due);
+            bothWays("behind", behind, 1);
+            check.equal("sentences", behind.sentences(3), 1);
+        }
+    }
+
     private void hasGoesFromTheFirstToBehindTheLast() {
         check.about("14 has: from the place of the first one to the place behind the last one");
         SentenceGym gym = new SentenceGym();
@@ -285,7 +334,11 @@ public final class ParsingEdgeTest extends Edges {
     private void theLevelOfNoSentenceIsNone() {
         check.about("15 level: NONE if it is no sentence");
         check.equal("a new object", new SentenceGym().level(), NONE);
-        check.equal("an empty row", alikeRules(alikeWords(9, 0), 8).level(), NONE);
+        SentenceGym gym = alikeRules(alikeWords(9, 0), 8);
+        check.equal("an empty row", gym.level(), NONE);
+        check.equal("a row", say(gym, 0, 1).level(), 1);
+        gym.hush();
+        check.equal("hushed", gym.level(), NONE);
         check.equal("a word of 1", say(nounsAndVerbs(), 0).level(), NONE);
         check.equal("two that do not agree", say(nounsAndVerbs(), 1, 2).level(), NONE);
         check.equal("two without rules", say(alikeWords(1, 0), 0, 0).level(), NONE);

@@ -4,7 +4,7 @@ import java.util.function.ToLongFunction;
 
 /**
  * "A call that throws an exception changes nothing; if several exceptions apply, the one that its
- * throws lines name first is thrown": every refused call, in objects from new to full. Of two
+ * throws lines name first is thrown": refused calls of each kind, in objects from new to full. Of two
  * objects that are alike one gets the refused call; then both are asked the same, down to the last
  * word and rule.
  */

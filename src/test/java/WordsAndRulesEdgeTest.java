@@ -26,6 +26,7 @@ public final class WordsAndRulesEdgeTest extends Edges {
         test.addRuleThrowsIfThereAre8();
         test.addRuleThrowsForItsArgumentsFirst();
         test.dropRuleTakesTheLatestAway();
+        test.aRuleInItsPlaceIsAnother();
         test.dropRuleReturnsHowManyThereAre();
         test.dropRuleThrowsIfThereIsNone();
         test.check.end();
@@ -301,6 +302,23 @@ public final class WordsAndRulesEdgeTest extends Edges {
         gym.dropRule();
         check.equal("the first is away", gym.readingsOf(0, 2, 1), 0);
         check.equal("the words stay", gym.readingsOf(0, 1, 0), 1);
+    }
+
+    private void aRuleInItsPlaceIsAnother() {
+        check.about("5 dropRule: takes the latest rule away, for another one in its place");
+        SentenceGym gym = nounsAndVerbs();
+        for (int modes : new int[] {33, 22, 0, 2, 11, 20}) {
+            gym.dropRule();
+            gym.addRule(0, 1, 2, modes);
+            boolean mustAgree = modes == 22 || modes == 20;
+            bothWays("modes " + modes, say(gym, 1, 2), mustAgree ? 0 : 1);
+            check.equal("level", gym.level(), mustAgree ? NONE : 1);
+            bothWays("modes " + modes + " of values that agree", say(gym, 0, 2), 1);
+        }
+        gym.dropRule();
+        gym.addRule(0, 2, 1, 33);
+        bothWays("turned round", say(gym, 0, 2), 0);
+        bothWays("turned round, in order", say(gym, 2, 0), 1);
     }
 
     private void dropRuleReturnsHowManyThereAre() {

@@ -762,11 +762,12 @@ public final class SentenceGym {
         private final int[][] counts = new int[2 * MOST_SAID + 1][KINDS];
 
         private int countRow(Grammar grammar, int[] words, int length, int category) {
-            count(grammar, words, 0, length, 0, 0);
+            count(grammar, counts, words, 0, length, 0, 0);
             return countOf(counts[0], category);
         }
 
-        private void count(Grammar grammar, int[] words, int from, int to, int depth, int into) {
+        private static void count(Grammar grammar, int[][] counts, int[] words, int from, int to,
+                int depth, int into) {
             Arrays.fill(counts[into], 0);
             if (depth >= MOST_SAID) {
                 return;
@@ -777,8 +778,8 @@ public final class SentenceGym {
             int first = 2 * depth + 1;
             int second = first + 1;
             for (int middle = from + 1; middle < to; middle++) {
-                count(grammar, words, from, middle, depth + 1, first);
-                count(grammar, words, middle, to, depth + 1, second);
+                count(grammar, counts, words, from, middle, depth + 1, first);
+                count(grammar, counts, words, middle, to, depth + 1, second);
                 grammar.addJoined(counts[first], counts[second], counts[into]);
             }
         }

@@ -9,6 +9,8 @@ public final class NaiveTest {
     private SentenceGym gym;
     private NaiveGym naive;
     private int categories;
+    /** Whether both parts must agree in feature 0 in every rule, so that there are words that spoil. */
+    private boolean agreeing;
     private String run;
 
     public static void main(String[] args) {
@@ -24,12 +26,13 @@ public final class NaiveTest {
         random = new Random(seed);
         gym = new SentenceGym();
         naive = new NaiveGym();
-        categories = 1 + random.nextInt(4);
+        agreeing = seed % 3 == 1;
+        categories = 1 + random.nextInt(agreeing ? 2 : 4);
         int most = 1 + random.nextInt(seed % 10 == 0 ? 9 : 4);
         for (int i = 0; i < most; i++) {
             addWord();
         }
-        most = random.nextInt(categories == 1 ? 3 : 8);
+        most = random.nextInt(mostRules());
         for (int i = 0; i < most; i++) {
             addRule();
         }
@@ -62,13 +65,17 @@ public final class NaiveTest {
         same("addWord", () -> gym.addWord(c, v, w), () -> naive.addWord(c, v, w));
     }
 
+    /** Many rules over few categories have more readings than the naive one can make. */
+    private int mostRules() {
+        return categories == 1 ? 3 : agreeing ? 4 : 8;
+    }
+
     private void addRule() {
         int made = category();
         int one = category();
         int other = category();
-        int modes = digitPair();
-        // many rules over one category have more readings than the naive one can make
-        if (naive.rules.size() < (categories == 1 ? 3 : 8)) {
+        int modes = agreeing ? 20 + random.nextInt(4) : digitPair();
+        if (naive.rules.size() < mostRules()) {
             same("addRule", () -> gym.addRule(made, one, other, modes), () -> naive.addRule(made, one, other, modes));
         }
     }
